@@ -9,6 +9,7 @@ import java.util.NoSuchElementException;
 public final class Stumpward {
     private static final String SIGNS = "nw0123456blx!BCLSHORaz+?pq";
     private static final String EXTRAS = "nwblp";
+    private static final int EXTRA_KINDS = 5;
     private static final String BOWLERS_WICKETS = "BCLSH";
     private static final int BUFFER = 12;
     private static final int PLAYERS = 11;
@@ -121,7 +122,7 @@ public final class Stumpward {
         typed = 0;
         log.keepBall(ball);
         int given = game.play(ball, false);
-        keepResult();
+        settle();
         return given;
     }
 
@@ -129,9 +130,13 @@ public final class Stumpward {
         if (!game.mayReview()) {
             throw new UnsupportedOperationException();
         }
+        Ball last = game.lastBall;
         log.keep(REVIEW, 0);
         boolean isChanged = game.judge();
-        keepResult();
+        if (isChanged) {
+            game.play(last, true);
+        }
+        settle();
         return isChanged;
     }
 
@@ -178,7 +183,7 @@ public final class Stumpward {
         }
         log.keep(DECLARE, 0);
         int made = game.closeByDeclaring();
-        keepResult();
+        settle();
         return made;
     }
 
@@ -201,7 +206,7 @@ public final class Stumpward {
         }
         log.keep(RAIN, overs);
         int left = game.takeOvers(overs);
-        keepResult();
+        settle();
         return left;
     }
 
@@ -211,7 +216,7 @@ public final class Stumpward {
         }
         log.keep(TIME, 0);
         game.endByTime();
-        keepResult();
+        settle();
         return game.result == DRAWN;
     }
 
@@ -248,7 +253,7 @@ public final class Stumpward {
 
     public int bonus(int team) throws IllegalArgumentException {
         requireTeam(team);
-        return game.bonusOf(team);
+        return at(game.bonus, team);
     }
 
     public boolean isOn() {
@@ -552,7 +557,8 @@ public final class Stumpward {
         return again.innings[innings];
     }
 
-    private void keepResult() {
+    private void settle() {
+        game.endInnings();
         if (game.result != NO_RESULT) {
             league.keep(game);
         }
@@ -570,6 +576,7 @@ public final class Stumpward {
                 ball = texts.get(value);
             }
             again.redo(log.kinds[i], value, ball);
+            again.endInnings();
         }
     }
 
@@ -597,7 +604,9 @@ public final class Stumpward {
             if (length < 1 || length > buffer.length) {
                 return null;
             }
-            Ball ball = new Ball(Arrays.copyOf(buffer, length));
+            char[] signs = new char[length];
+            System.arraycopy(buffer, 0, signs, 0, length);
+            Ball ball = new Ball(signs);
             ball.readParts();
             boolean isWhole = ball.at == length;
             return isWhole && ball.areRunsRight() && ball.isOutRight() && ball.isErringRight() ? ball : null;
@@ -776,9 +785,9 @@ public final class Stumpward {
             Arrays.fill(made, 0);
             Arrays.fill(met, 0);
             Arrays.fill(over, 0);
-            Arrays.fill(states, NOT_IN);
-            states[0] = IN;
-            states[1] = IN;
+            for (int i = 0; i < PLAYERS; i++) {
+                states[i] = i == striker || i == other ? IN : NOT_IN;
+            }
         }
 
         void copyFrom(Batting from) {
@@ -871,13 +880,14 @@ public final class Stumpward {
         void open() {
             previous = -1;
             oversDone = 0;
-            openOver();
             Arrays.fill(begun, 0);
             Arrays.fill(sent, 0);
             Arrays.fill(given, 0);
             Arrays.fill(taken, 0);
             Arrays.fill(maidens, 0);
-            Arrays.fill(isHurt, false);
+            for (int i = 0; i < PLAYERS; i++) {
+                isHurt[i] = false;
+            }
         }
 
         void openOver() {
@@ -982,7 +992,7 @@ public final class Stumpward {
         int runs;
         int wickets;
         int counted;
-        final int[] extras = new int[EXTRAS.length()];
+        final int[] extras = new int[EXTRA_KINDS];
         final int[] falls = new int[PLAYERS + 1];
         final int[] reviews = new int[2];
         final Batting batting = new Batting();
@@ -1003,6 +1013,7 @@ public final class Stumpward {
             Arrays.fill(reviews, REVIEWS);
             batting.open();
             bowling.open();
+            bowling.openOver();
         }
 
         void copyFrom(Innings from) {
@@ -1161,10 +1172,6 @@ public final class Stumpward {
             return innings[Math.min(Math.max(count - 1, 0), INNINGS - 1)];
         }
 
-        int bonusOf(int team) {
-            return at(bonus, team);
-        }
-
         /** Notes that an act is done in the innings that is on. */
         Innings act() {
             lastBall = null;
@@ -1187,18 +1194,20 @@ public final class Stumpward {
         }
 
         int play(Ball ball, boolean isRighted) {
+            if (ball == null) {
+                return 0;
+            }
             if (ball.isReviewable()) {
                 saved.copyFrom(now());
                 copyRow(bonus, savedBonus);
             }
             Innings now = act();
-            lastBall = ball;
+            lastBall = isRighted ? null : ball;
             lastInnings = count - 1;
             int given = now.play(ball, isRighted, version);
             if (ball.penalty == 'q') {
                 add(bonus, 1 - now.team, PENALTY);
             }
-            settle();
             return given;
         }
 
@@ -1219,24 +1228,23 @@ public final class Stumpward {
             return lastBall.verdict(false) != NONE ? batting : 1 - batting;
         }
 
-        /** Answers whether the umpire had erred. */
+        /** Answers whether the umpire had erred; then all is as it was ahead of the ball. */
         boolean judge() {
-            Ball ball = lastBall;
-            if (ball == null || lastInnings < 0 || lastInnings >= INNINGS) {
+            if (lastBall == null || lastInnings < 0 || lastInnings >= INNINGS) {
                 return false;
             }
             Innings past = innings[lastInnings];
-            if (ball.isErring) {
-                past.copyFrom(saved);
-                copyRow(savedBonus, bonus);
-                count = lastInnings + 1;
-                play(ball, true);
-            } else {
+            if (!lastBall.isErring) {
                 add(past.reviews, findReviewer(), -1);
+                lastBall = null;
+                return false;
             }
-            lastBall = null;
-            return ball.isErring;
+            past.copyFrom(saved);
+            copyRow(savedBonus, bonus);
+            count = lastInnings + 1;
+            return true;
         }
+
 
         boolean maySend(int player) {
             return isGoing() && isPlayer(player) && now().batting.stateOf(player) == NOT_IN;
@@ -1280,7 +1288,6 @@ public final class Stumpward {
         int closeByDeclaring() {
             Innings now = act();
             now.isDeclared = true;
-            settle();
             return now.runs;
         }
 
@@ -1301,7 +1308,6 @@ public final class Stumpward {
         int takeOvers(int overs) {
             Innings now = act();
             now.loseOvers(overs);
-            settle();
             return now.overs;
         }
 
@@ -1316,19 +1322,20 @@ public final class Stumpward {
 
         /** Does an act again if it can be done now, too. */
         void redo(int kind, int value, Ball ball) {
+            Ball last = lastBall;
             if (kind != REVIEW) {
                 // A review follows its own ball alone, also if that one is left out.
                 lastBall = null;
             }
             switch (kind) {
                 case BALL:
-                    if (ball != null && mayPlay()) {
+                    if (mayPlay()) {
                         play(ball, false);
                     }
                     break;
                 case REVIEW:
-                    if (mayReview()) {
-                        judge();
+                    if (mayReview() && judge()) {
+                        play(last, true);
                     }
                     break;
                 case BOWL:
@@ -1393,8 +1400,12 @@ public final class Stumpward {
         }
 
         /** Ends each innings that is over; one that begins can be over at once. */
-        void settle() {
-            for (int i = 0; i < INNINGS && isGoing() && isInningsOver(); i++) {
+        void endInnings() {
+            for (int i = 0; i < INNINGS && isGoing(); i++) {
+                boolean isReached = hasTarget() && findMissing() <= 0;
+                if (!isReached && !now().isDone()) {
+                    return;
+                }
                 if (count == 1) {
                     begin(1 - first, innings[0].overs, ALL_OUT);
                 } else if (isFull) {
@@ -1403,10 +1414,6 @@ public final class Stumpward {
                     endOfLimited();
                 }
             }
-        }
-
-        boolean isInningsOver() {
-            return now().isDone() || hasTarget() && findMissing() <= 0;
         }
 
         boolean hasTarget() {
@@ -1425,7 +1432,7 @@ public final class Stumpward {
         }
 
         int limitedTarget() {
-            int score = innings[0].runs + bonusOf(innings[0].team);
+            int score = innings[0].runs + at(bonus, innings[0].team);
             int whole = innings[0].resources;
             int part = innings[1].resources;
             if (whole == part || whole <= 0) {
@@ -1438,12 +1445,12 @@ public final class Stumpward {
         int findMissing() {
             Innings now = now();
             // A bonus helps to reach the target of the second innings alone.
-            int has = count == 2 ? now.runs + bonusOf(now.team) : now.runs;
+            int has = count == 2 ? now.runs + at(bonus, now.team) : now.runs;
             return findTarget() - has;
         }
 
         int findTotal(int team) {
-            int total = bonusOf(team);
+            int total = at(bonus, team);
             for (int i = 0; i < count && i < INNINGS; i++) {
                 if (innings[i].team == team) {
                     total += innings[i].runs;
