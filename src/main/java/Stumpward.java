@@ -1245,7 +1245,6 @@ public final class Stumpward {
             return true;
         }
 
-
         boolean maySend(int player) {
             return isGoing() && isPlayer(player) && now().batting.stateOf(player) == NOT_IN;
         }

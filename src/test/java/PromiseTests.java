@@ -452,6 +452,9 @@ public final class PromiseTests {
         is(x.bowled(0, 4, 'b'), 0);
         over(4, "n 0 0 0 0 0 0");
         is(x.bowled(0, 4, 'm'), 0);
+        // An over behind a split one can be a maiden again.
+        over(5, "0 0 0 0 0 0");
+        is(x.bowled(0, 5, 'm'), 1);
         thrown(ARGUMENT, () -> x.bowled(0, 0, 'x'));
         thrown(INDEX, () -> x.bowled(0, 11, 'x'));
         thrown(INDEX, () -> x.bowled(0, -1, 'b'));
@@ -672,6 +675,16 @@ public final class PromiseTests {
         is(x.review(), false);
         is(x.enforce(), 6);
         is(x.team(2), 1);
+
+        // Acts of the third innings of an earlier match do not count, and what is less is told.
+        x.hurt(0);
+        x.time();
+        x.start('f', 5, 0, 0);
+        over(0, "6! 1");
+        x.declare();
+        over(0, "2");
+        x.declare();
+        is(x.enforce(), 5);
 
         promise = 14;
         x = new Stumpward();
@@ -1051,6 +1064,27 @@ public final class PromiseTests {
         x = new Stumpward();
         thrown(INDEX, () -> x.runsBy(0, 0));
         thrown(INDEX, () -> x.runsBySecond(0));
+        // The team that was made to bat on loses in one innings, also if it is all done again.
+        full(5, 0, 0);
+        over(0, "6! 4!");
+        x.declare();
+        x.declare();
+        x.enforce();
+        over(0, "6!");
+        x.declare();
+        is(x.result(), '0');
+        is(x.runsBy(2, 1), 6);
+        thrown(INDEX, () -> x.runsBy(3, 1));
+        thrown(INDEX, () -> x.runsBySecond(3));
+        is(x.isSound(), true);
+        // Nothing of a match before is done again.
+        full(5, 0, 0);
+        x.time();
+        x.start('f', 5, 0, 1);
+        is(x.runsBy(0, 0), 0);
+        over(3, "2 3");
+        is(x.runsBy(0, 0), 5);
+        is(x.runsBySecond(0), 5);
 
         promise = 43;
         x = new Stumpward();
@@ -1158,6 +1192,14 @@ public final class PromiseTests {
         promise = 51;
         is(x.isSound(), true);
         is(new Stumpward().isSound(), true);
+        full(9, 1, 1);
+        is(x.isSound(), true);
+        over(0, "n4! w2 b2 l1 C+?q");
+        x.review();
+        balls("1Rz+ 0?p O+");
+        is(x.isSound(), true);
+        x.time();
+        is(x.isSound(), true);
     }
 
     public static void main(String[] args) {
