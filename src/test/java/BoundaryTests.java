@@ -384,13 +384,14 @@ public final class BoundaryTests {
         due(second + LIMITED + "bowl(0) 3 ", "firstDiffering()", NONE);
         due(second + LIMITED + "bowl(0) 3 ", "runsBySecond(0)", 3);
         // Innings that have not begun yet are those of no match, also if the one before had all four.
-        String all = "start(f,9,0,1) bowl(0) 6 declare() bowl(0) 5 declare() bowl(0) 4 declare() bowl(0) 3 declare() "
+        String all = "start(f,9,0,1) bowl(0) 6 5 declare() bowl(0) 1 declare() bowl(0) 2 declare() bowl(0) 6 declare() "
                 + "amend(0,d) ";
         StringBuilder next = new StringBuilder("start(f,1,0,0) ");
-        for (String more : List.of("bowl(2) 1 ", "declare() ", "bowl(2) 1 ", "declare() ", "bowl(2) 1 ", "declare() ")) {
+        for (String more : List.of("bowl(2) 1 ", "declare() ", "bowl(2) 3 ", "declare() ", "bowl(2) 1 ", "declare() ")) {
             next.append(more);
             same(all + next, DONE + next);
         }
+        due(all + next, "result()", "1");
         // The last ball of the match before is no last act any more, also if it gave the result.
         String byCatch = "start(l,1,0,0) bowl(0) 1 0 0 0 0 0 bowl(0) 0 0 0 0 0 C ";
         due(byCatch, "review()", UNSUPPORTED);
